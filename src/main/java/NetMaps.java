@@ -535,7 +535,7 @@ public final class NetMaps {
 
     /** Bounds the search to the smallest or greatest images: their size, 0 without maps. */
     private int boundToImage(boolean fewest) {
-        if (finder.howMany() == 0) {
+        if (!finder.finds()) {
             return 0;
         }
         for (int i = 1; i <= NODES; i++) {
@@ -619,7 +619,7 @@ public final class NetMaps {
         }
         switch (what) {
             case 0:
-                finder.retracting(net);
+                finder.byRetraction(net);
                 return finder.howMany();
             case 1:
                 return leastCore(net);
@@ -665,7 +665,7 @@ public final class NetMaps {
         if (in(d).isEmpty()) {
             return EMPTY;
         }
-        finder.retracting(in(d));
+        finder.byRetraction(in(d));
         return finder.pick(k) ? finder.image[a] : BEYOND;
     }
 
@@ -1418,7 +1418,7 @@ public final class NetMaps {
             }
         }
 
-        void retracting(Net net) {
+        void byRetraction(Net net) {
             freely(net, net);
             retracting = true;
         }
@@ -1429,7 +1429,10 @@ public final class NetMaps {
             bounded = fewest > 1 || most < h.nodes;
         }
 
-        /** What node a may become by its list and its lines to and from those ahead. */
+        /**
+         * What node a may become by its list and its lines to and from those ahead; of retractions
+         * what is reached stays where it is, and what does not stay is not reached.
+         */
         int choices(int a, int reached) {
             int some = may[a];
             int to = g.to[a];
@@ -1441,22 +1444,11 @@ public final class NetMaps {
                 if (has(from, b)) {
                     some &= h.to[image[b]];
                 }
-            }
-            return retracting ? some & retractChoices(a, reached) : some;
-        }
-
-        /** What is reached stays where it is, and only what stays is reached. */
-        int retractChoices(int a, int reached) {
-            if (has(reached, a)) {
-                return 1 << a;
-            }
-            int some = h.all();
-            for (int b = 0; b < a; b++) {
-                if (image[b] != b) {
+                if (retracting && image[b] != b) {
                     some &= ~(1 << b);
                 }
             }
-            return some;
+            return retracting && has(reached, a) ? some & 1 << a : some;
         }
 
         /** Whether the bounds can still be kept when node a and those ahead have reached these. */
