@@ -528,7 +528,6 @@ public final class NetMaps {
                 return finder.howMany();
             default:
                 copyImage(target);
-                finder.bound(0, NODES);
                 return finder.numberOf(target);
         }
     }
@@ -1579,20 +1578,19 @@ public final class NetMaps {
             return true;
         }
 
-        /** How many maps come ahead of one. */
+        /** How many maps come ahead of one, whatever they reach. */
         int numberOf(int[] map) {
             int number = 0;
-            int reached = 0;
+            bound(0, NODES);
             for (int a = 0; a < g.nodes && a < map.length; a++) {
-                int some = choices(a, reached);
+                int some = choices(a, 0);
                 for (int x = 0; x < map[a]; x++) {
                     if (has(some, x)) {
                         image[a] = x;
-                        number += manyFrom(this, a + 1, reached | 1 << x);
+                        number += manyFrom(this, a + 1, 0);
                     }
                 }
                 image[a] = map[a];
-                reached |= 1 << map[a];
             }
             return number;
         }

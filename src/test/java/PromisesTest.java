@@ -311,7 +311,15 @@ public final class PromisesTest {
         }
         x.put(5, 3);
         due("no lines are two-way", x.told(5, 4), 1);
+        due("the most of no lines", x.told(5, 7), 0);
+        due("the most of no lines", x.told(5, 8), 0);
         due("pieces", x.told(5, 3), 3);
+        told(x, 5, "5:4>3 3>2 2>1 1>0");
+        due("a piece told backward", x.told(5, 3), 1);
+        told(x, 5, "4:0>1 0>2 3>1");
+        due("a piece to and fro", x.told(5, 3), 1);
+        told(x, 5, "2:0>0");
+        due("the one ring at node 0", x.told(5, 5), 1);
         x.take(5);
         due("empty", x.told(5, 3), -2);
         due("told(5, 9)", x.told(5, 9), NONE);
@@ -382,6 +390,9 @@ public final class PromisesTest {
         due("power", x.make(0, 0, 5, 4), 4);
         dueText(x, 5, "4:0>10>31>11>3");
         due("power", x.make(1, 0, 5, 4), 8);
+        told(x, 5, "2:1>0");
+        due("power by a line back", x.make(0, 5, 5, 4), 4);
+        dueText(x, 5, "4:0>20>32>22>3");
         due("no lines to keep", x.make(0, 2, 5, 4), 16);
         due("by one node", x.make(0, 3, 5, 4), 4);
         due("by a loop", x.make(0, 4, 5, 4), 1);
@@ -544,6 +555,13 @@ public final class PromisesTest {
         x.list(0, 124);
         due("bits that are not there", x.maps(0, 1, 0), 0);
         x.free();
+        told(x, 5, "2:1>0");
+        told(x, 4, "3:0>1 0>2");
+        due("a line to the node ahead", x.maps(5, 4, 0), 2);
+        told(x, 4, PATH);
+        due("each line, with its way", x.maps(5, 5, 3), 1);
+        due("each line, with its way", x.maps(4, 4, 3), 1);
+        due("each line, with its way", x.maps(5, 4, 3), 0);
         x.put(5, 7);
         due("seven into seven", x.maps(5, 5, 0), 823543);
         due("seven into seven", x.maps(5, 5, 1), 5040);
@@ -644,6 +662,15 @@ public final class PromisesTest {
         due("lists stay", x.count(11), 127);
         x.list(1, 0);
         due("nothing is left", x.left(1, 1, 2), 0);
+        x.free();
+        x.list(2, 4);
+        due("what goes out at the end goes out at the beginning", x.left(0, 0, 0), 1);
+        told(x, 4, "7:0>1 1>2 2>3 3>4 4>5 5>6");
+        x.list(2, 127);
+        x.list(6, 64);
+        for (int a = 0; a < 7; a++) {
+            due("left of a long path", x.left(4, 4, a), 1 << a);
+        }
         due("no such node", x.left(0, 0, 3), NONE);
         due("no such node", x.left(0, 0, -1), NONE);
         due("no such node, the other empty", x.left(0, 5, 3), NONE);
@@ -742,6 +769,14 @@ public final class PromisesTest {
         due("seven", x.image(5, 5, false, 0), 7);
         due("seven", x.image(5, 5, false, 1), 5040);
         due("one", x.image(5, 5, true, 1), 7);
+        x.change(5, 2);
+        due("no fewer than seven", x.image(5, 5, true, 0), 7);
+        due("no fewer than seven", x.image(5, 5, true, 1), 5040);
+        x.put(5, 7);
+        x.change(5, 3);
+        due("no more than one", x.image(4, 5, false, 0), 1);
+        due("no more than one", x.image(4, 5, false, 1), 7);
+        due("no more than one", x.image(4, 5, false, 2), 0);
         x.take(5);
         due("empty", x.image(5, 0, true, 0), -2);
         due("empty", x.image(0, 5, true, 0), -2);
@@ -796,6 +831,25 @@ public final class PromisesTest {
         due("no maps", x.cheapest(3, 2, false, 1), -4);
         x.list(1, 0);
         due("no maps", x.cheapest(0, 1, false, 2), -4);
+        x.free();
+        x.put(0, 7);
+        x.put(1, 2);
+        x.weigh(0, 1);
+        x.weigh(1, 3);
+        due("seven", x.cheapest(0, 1, true, 0), 7);
+        due("seven", x.cheapest(0, 1, false, 0), 21);
+        due("seven", x.cheapest(0, 1, false, 2), 127);
+        x.put(0, 2);
+        due("two behind seven", x.cheapest(0, 1, true, 0), 2);
+        due("two behind seven", x.cheapest(0, 1, true, 1), 1);
+        x.weigh(0, 0);
+        x.weigh(1, 5);
+        x.weigh(2, 7);
+        x.weigh(3, 9);
+        told(x, 0, PATH);
+        told(x, 1, "4:0>1 2>3 3>1");
+        due("light ones that are no maps", x.cheapest(0, 1, true, 0), 21);
+        due("light ones that are no maps", x.cheapest(0, 1, true, 1), 1);
         due("empty", x.cheapest(5, 0, true, 0), -2);
         due("empty", x.cheapest(0, 5, true, 0), -2);
         due("what", x.cheapest(0, 5, true, 3), NONE);
@@ -814,6 +868,14 @@ public final class PromisesTest {
         due("behind", x.behind(1, 1, 1, 1, 2), 3);
         due("behind", x.behind(1, 1, 1, 2, 1), 4);
         due("seven", x.behind(2, 2, 2, 823542, 823541), 5 * 137257);
+        told(x, 3, "2:0>1");
+        told(x, 4, PATH);
+        told(x, 5, "4:0>1 0>2 0>3 1>2 2>3");
+        due("three networks", x.behind(3, 4, 5, 1, 2), 4);
+        due("three networks", x.behind(3, 4, 5, 0, 2), 3);
+        due("three networks", x.behind(3, 4, 5, 1, 0), 3);
+        due("three networks, not so many", x.behind(3, 4, 5, 1, 3), -3);
+        x.take(5);
         due("not so many", x.behind(0, 1, 1, 6, 0), -3);
         due("not so many", x.behind(0, 1, 1, 0, 6), -3);
         due("below 0", x.behind(0, 1, 1, -1, 0), NONE);
@@ -840,6 +902,8 @@ public final class PromisesTest {
         }
         x.list(0, 0);
         due("no lists", x.core(0, 0), 10);
+        x.free();
+        due("other maps are no retractions", x.maps(0, 0, 0), 27);
         x.put(0, 7);
         due("seven", x.core(0, 0), 6322);
         due("seven", x.core(0, 3), 127);
@@ -929,6 +993,12 @@ public final class PromisesTest {
             due("2000, " + what, x.crowds(4, 4, what), greatest[what]);
         }
         x.free();
+        told(x, 3, "6:0>2 0>3 0>5 2>1 3>4 5>1");
+        told(x, 4, "4:0>0 0-1 0-3 1>1 1-2 1-3 2>0 2>2 3>2 3>3");
+        due("one more than 2000", x.maps(3, 4, 0), 2001);
+        due("one more than 2000", x.crowds(3, 4, 0), -3);
+        due("one more than 2000", x.steps(3, 4, 0, 0), -3);
+        x.free();
         x.list(0, 4);
         due("by lists", x.crowds(0, 1, 3), 1);
         due("by lists", x.crowds(0, 1, 2), 2);
@@ -957,6 +1027,10 @@ public final class PromisesTest {
                 due("operations(" + d + ", " + what + ")", x.operations(d, what), want[d][what]);
             }
         }
+        told(x, 0, "2:1>0");
+        due("a line back", x.operations(0, 0), 4);
+        due("a line back", x.operations(0, 1), 4);
+        due("a line back", x.operations(0, 2), 2);
         x.put(0, 4);
         due("more than 3", x.operations(0, 3), -3);
         due("what", x.operations(0, 4), NONE);
@@ -986,6 +1060,10 @@ public final class PromisesTest {
         due("fair", x.operation(1, 2, 5, 2, 0, 0), 1);
         due("fair", x.operation(1, 2, 5, 2, 1, 0), 2);
         due("fair", x.operation(1, 2, 5, 2, 2, 0), 2);
+        due("fair", x.operation(1, 2, 0, 2, 1, 0), 0);
+        due("fair", x.operation(1, 2, 0, 1, 1, 0), 1);
+        due("fair", x.operation(1, 2, 26, 1, 1, 0), 1);
+        due("fair", x.operation(1, 2, 9, 1, 2, 0), 0);
         due("majority", x.operation(1, 3, 1, 2, 1, 0), 1);
         due("majority", x.operation(1, 3, 1, 0, 1, 2), 0);
         due("majority", x.operation(1, 3, 243, 0, 1, 2), 1);
@@ -1079,9 +1157,9 @@ public final class PromisesTest {
         begin(36);
         String[] texts = {
             "3:0-1 1-2", "3:", K3, "4:0-1 1-2 2-3 3-0", "2:0>1 1>1", "2:0>1 0>0", "4:0-1 1-2 2-3", "2:0>1", "1:",
-            "3:0>1 0>2 1>2", "2:0>0 1>1", "3:2>0 2>1 1>2",
+            "3:0>1 0>2 1>2", "2:0>0 1>1", "3:2>0 2>1 1>2", "3:0>1 2>1", "3:1>0 1>2",
         };
-        int[] want = {6, 4, 7, 12, 2, 1, 12, 3, 1, 7, 3, 6};
+        int[] want = {6, 4, 7, 12, 2, 1, 12, 3, 1, 7, 3, 6, 6, 6};
         for (int i = 0; i < texts.length; i++) {
             NetMaps x = with(texts[i]);
             due("folded of " + texts[i], x.folded(0, 0), want[i]);
