@@ -377,6 +377,10 @@ public final class PromisesTest {
         dueText(x, 4, "3:0-11>12>0");
         due("both", x.make(1, 3, 4, 3), 1);
         dueText(x, 4, "3:1>1");
+        x.put(5, 1);
+        x.line(5, 0, 0, true);
+        due("times a loop", x.make(0, 5, 4, 1), 1);
+        dueText(x, 4, "2:0>1");
         x.put(4, 7);
         x.put(5, 1);
         due("seven nodes", x.make(4, 5, 4, 1), 0);
@@ -840,6 +844,7 @@ public final class PromisesTest {
         due("seven", x.cheapest(0, 1, false, 0), 21);
         due("seven", x.cheapest(0, 1, false, 2), 127);
         x.put(0, 2);
+        due("two behind seven", x.cheapest(0, 1, false, 2), 3);
         due("two behind seven", x.cheapest(0, 1, true, 0), 2);
         due("two behind seven", x.cheapest(0, 1, true, 1), 1);
         x.weigh(0, 0);
@@ -1326,6 +1331,25 @@ public final class PromisesTest {
 
     private static void promise44() {
         begin(44);
+        NetMaps all = new NetMaps();
+        for (int i = 0; i < 7; i++) {
+            all.list(i, 64 + i);
+            all.weigh(i, 2 + i);
+            all.put(i, i + 1);
+        }
+        all.keep();
+        all.free();
+        for (int i = 0; i < 7; i++) {
+            all.weigh(i, 0);
+            all.take(i);
+        }
+        due("all is as it was", all.undo(), 0);
+        due("all is as it was", all.count(0), 63);
+        for (int i = 0; i < 7; i++) {
+            due("list " + i, all.count(10 + i), 64 + i);
+            due("weight " + i, all.count(20 + i), 2 + i);
+            due("nodes " + i, all.told(i, 0), i < 6 ? i + 1 : NONE);
+        }
         NetMaps x = with(K3, PATH);
         due("nothing is kept", x.undo(), NONE);
         x.list(2, 9);
