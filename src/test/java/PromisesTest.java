@@ -134,6 +134,14 @@ public final class PromisesTest {
             wrong++;
             System.out.println("promise " + promise + ": drawer " + d + " holds " + text + ", due is " + want);
         }
+        // The rows told backward are those told forward.
+        for (int b = 0; b < x.told(d, 0); b++) {
+            int from = 0;
+            for (int a = 0; a < x.told(d, 0); a++) {
+                from |= (x.row(d, a, true) >> b & 1) << a;
+            }
+            due("row(" + d + ", " + b + ", false)", x.row(d, b, false), from);
+        }
     }
 
     // ---- texts, drawers
