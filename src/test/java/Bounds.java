@@ -223,6 +223,13 @@ abstract class Bounds {
         return x;
     }
 
+    /** Rich, with no choice left for node 0. */
+    static NetMaps listless() {
+        NetMaps x = rich();
+        x.list(0, 0);
+        return x;
+    }
+
     /** Seven nodes with all lines, loops too, in drawer 0; none of these lines in drawer 1. */
     static NetMaps fullAndBare() {
         NetMaps x = new NetMaps();

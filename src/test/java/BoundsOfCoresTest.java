@@ -14,12 +14,6 @@ public final class BoundsOfCoresTest extends Bounds {
         end(27, 30);
     }
 
-    private static NetMaps listless() {
-        NetMaps x = rich();
-        x.list(0, 0);
-        return x;
-    }
-
     /** Of five nodes into five, by lists 5 * 5 * 5 * 4 * 4 maps: 2000. */
     private static NetMaps most() {
         NetMaps x = with("5:", "5:");
@@ -69,7 +63,7 @@ public final class BoundsOfCoresTest extends Bounds {
         for (int what = 0; what <= 3; what++) {
             int told = what;
             int want = new int[] {1, 3, 2, 1}[what];
-            stays(BoundsOfCoresTest::listless, "core(0, " + what + ")", y -> y.core(0, told), want);
+            stays(Bounds::listless, "core(0, " + what + ")", y -> y.core(0, told), want);
         }
     }
 
@@ -101,7 +95,7 @@ public final class BoundsOfCoresTest extends Bounds {
             due("retraction(4, " + k + ", 0)", x.retraction(4, k, 0), two[k][0]);
             due("retraction(4, " + k + ", 1)", x.retraction(4, k, 1), two[k][1]);
         }
-        stays(BoundsOfCoresTest::listless, "retraction(0, 0, 1), no lists", y -> y.retraction(0, 0, 1), 1);
+        stays(Bounds::listless, "retraction(0, 0, 1), no lists", y -> y.retraction(0, 0, 1), 1);
         test(28, "-3: not so many");
         stays(Bounds::fullAndBare, "retraction(0, 6322, 0)", y -> y.retraction(0, 6322, 0), -3);
         stays(Bounds::fullAndBare, "retraction(1, 6322, 6)", y -> y.retraction(1, 6322, 6), -3);
@@ -186,7 +180,7 @@ public final class BoundsOfCoresTest extends Bounds {
             stays(Bounds::rich, "steps(1, 1, 0, " + k + ")", x -> x.steps(1, 1, 0, k), -3);
         }
         stays(Bounds::rich, "steps(1, 0, 0, 0), no maps at all", x -> x.steps(1, 0, 0, 0), -3);
-        stays(BoundsOfCoresTest::listless, "steps(0, 1, 0, 0), none by lists", x -> x.steps(0, 1, 0, 0), -3);
+        stays(Bounds::listless, "steps(0, 1, 0, 0), none by lists", x -> x.steps(0, 1, 0, 0), -3);
     }
 
     private static void promise29Refused() {
@@ -218,9 +212,9 @@ public final class BoundsOfCoresTest extends Bounds {
     }
 
     private static void promise30() {
-        test(30, "Of all MAPS by LISTS, what 0 FROZEN ones, 1 crowds that hang together by steps, 2 the greatest such crowd");
+        test(30, "what 0 FROZEN ones, 1 crowds that hang together by steps, 2 the greatest such crowd");
         dueCrowds("no maps", Bounds::rich, 1, 0, 0, 0, 0, 0);
-        dueCrowds("no maps by lists", BoundsOfCoresTest::listless, 0, 1, 0, 0, 0, 0);
+        dueCrowds("no maps by lists", Bounds::listless, 0, 1, 0, 0, 0, 0);
         dueCrowds("one map", Bounds::rich, 4, 4, 1, 1, 1, 0);
         dueCrowds("two frozen ones", Bounds::rich, 0, 0, 2, 2, 1, 0);
         dueCrowds("all frozen", Bounds::rich, 1, 1, 6, 6, 1, 0);

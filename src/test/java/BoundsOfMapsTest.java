@@ -27,13 +27,6 @@ public final class BoundsOfMapsTest extends Bounds {
         end(14, 26);
     }
 
-    /** Rich, with no choice left for node 0. */
-    private static NetMaps listless() {
-        NetMaps x = rich();
-        x.list(0, 0);
-        return x;
-    }
-
     private static void promise14() {
         test(14, "LIST of NODE number a (0 to 6) is so from now on (bits 0 to 127): what it was");
         NetMaps x = new NetMaps();
@@ -98,7 +91,7 @@ public final class BoundsOfMapsTest extends Bounds {
     }
 
     private static void promise16Bare() {
-        test(16, "How many MAPS of d into e by LISTS (sort 0), of these: 1 no two NODES become one, 2 each NODE of e is one");
+        test(16, "(sort 0), of these: 1 no two NODES become one, 2 each NODE of e is one");
         NetMaps full = new NetMaps();
         for (int n = 1; n <= 7; n++) {
             for (int m = 1; m <= 7; m++) {
@@ -221,7 +214,7 @@ public final class BoundsOfMapsTest extends Bounds {
         // Of seven nodes rich lists two for node 5 and one for node 6.
         stays(Bounds::rich, "map(3, 3, 33613, 5)", y -> y.map(3, 3, 33613, 5), 1);
         stays(Bounds::rich, "map(3, 3, 33614, 5)", y -> y.map(3, 3, 33614, 5), -3);
-        stays(BoundsOfMapsTest::listless, "map(0, 1, 0, 0)", y -> y.map(0, 1, 0, 0), -3);
+        stays(Bounds::listless, "map(0, 1, 0, 0)", y -> y.map(0, 1, 0, 0), -3);
         test(17, "rising by what NODE 0 becomes, then 1, and so on");
         NetMaps rising = with("3:", "2:");
         for (int k = 0; k < 8; k++) {
@@ -352,8 +345,8 @@ public final class BoundsOfMapsTest extends Bounds {
         due("all into a loop", x.fits(4, 2), 2);
         due("nodes without lines", x.fits(3, 5), 3);
         test(20, "G FITS into H: there is a MAP (no LISTS)");
-        stays(BoundsOfMapsTest::listless, "fits(0, 1)", y -> y.fits(0, 1), 1);
-        stays(BoundsOfMapsTest::listless, "fits(0, 0)", y -> y.fits(0, 0), 3);
+        stays(Bounds::listless, "fits(0, 1)", y -> y.fits(0, 1), 1);
+        stays(Bounds::listless, "fits(0, 0)", y -> y.fits(0, 0), 3);
         test(20, "-2: one is empty");
         stays(Bounds::rich, "fits(5, 0)", y -> y.fits(5, 0), EMPTY);
         stays(Bounds::rich, "fits(0, 5)", y -> y.fits(0, 5), EMPTY);
@@ -490,10 +483,10 @@ public final class BoundsOfMapsTest extends Bounds {
             for (boolean fewest : new boolean[] {true, false}) {
                 stays(Bounds::rich, "image(1, 0, ..)", x -> x.image(1, 0, fewest, told), -4);
                 stays(Bounds::rich, "image(4, 3, ..)", x -> x.image(4, 3, fewest, told), -4);
-                stays(BoundsOfMapsTest::listless, "image(0, 1, ..)", x -> x.image(0, 1, fewest, told), -4);
+                stays(Bounds::listless, "image(0, 1, ..)", x -> x.image(0, 1, fewest, told), -4);
                 stays(Bounds::rich, "image(5, 0, ..)", x -> x.image(5, 0, fewest, told), EMPTY);
                 stays(Bounds::rich, "image(0, 5, ..)", x -> x.image(0, 5, fewest, told), EMPTY);
-                stays(BoundsOfMapsTest::listless, "image(0, 5, ..)", x -> x.image(0, 5, fewest, told), EMPTY);
+                stays(Bounds::listless, "image(0, 5, ..)", x -> x.image(0, 5, fewest, told), EMPTY);
             }
         }
         test(23, "NONE: no such ones");
@@ -565,10 +558,10 @@ public final class BoundsOfMapsTest extends Bounds {
             for (boolean least : new boolean[] {true, false}) {
                 stays(Bounds::rich, "cheapest(1, 0, ..)", x -> x.cheapest(1, 0, least, told), -4);
                 stays(Bounds::rich, "cheapest(4, 3, ..)", x -> x.cheapest(4, 3, least, told), -4);
-                stays(BoundsOfMapsTest::listless, "cheapest(0, 1, ..)", x -> x.cheapest(0, 1, least, told), -4);
+                stays(Bounds::listless, "cheapest(0, 1, ..)", x -> x.cheapest(0, 1, least, told), -4);
                 stays(Bounds::rich, "cheapest(5, 0, ..)", x -> x.cheapest(5, 0, least, told), EMPTY);
                 stays(Bounds::rich, "cheapest(0, 5, ..)", x -> x.cheapest(0, 5, least, told), EMPTY);
-                stays(BoundsOfMapsTest::listless, "cheapest(0, 5, ..)", x -> x.cheapest(0, 5, least, told), EMPTY);
+                stays(Bounds::listless, "cheapest(0, 5, ..)", x -> x.cheapest(0, 5, least, told), EMPTY);
             }
         }
         refusesOutside(Bounds::rich, "cheapest(#, 1, true, 0)", 0, 5, (x, d) -> x.cheapest(d, 1, true, 0), NONE);
@@ -585,7 +578,7 @@ public final class BoundsOfMapsTest extends Bounds {
     }
 
     private static void promise26() {
-        test(26, "MAP k of d into e, then MAP l of e into f (no LISTS all through): the number of that MAP of d into f");
+        test(26, "then MAP l of e into f (no LISTS all through): the number of that MAP of d into f");
         NetMaps x = fullAndBare();
         x.list(0, 0);
         x.list(6, 0);
@@ -603,11 +596,11 @@ public final class BoundsOfMapsTest extends Bounds {
         due("the last of one into seven", x.behind(2, 2, 1, 0, 6), 6);
         test(26, "-3: not so many");
         for (int k : new int[] {6, 7, GREATEST}) {
-            stays(BoundsOfMapsTest::listless, "behind(0, 1, 1, " + k + ", 0)", y -> y.behind(0, 1, 1, k, 0), -3);
-            stays(BoundsOfMapsTest::listless, "behind(0, 1, 1, 0, " + k + ")", y -> y.behind(0, 1, 1, 0, k), -3);
-            stays(BoundsOfMapsTest::listless, "behind(0, 1, 1, " + k + ", " + k + ")", y -> y.behind(0, 1, 1, k, k), -3);
+            stays(Bounds::listless, "behind(0, 1, 1, " + k + ", 0)", y -> y.behind(0, 1, 1, k, 0), -3);
+            stays(Bounds::listless, "behind(0, 1, 1, 0, " + k + ")", y -> y.behind(0, 1, 1, 0, k), -3);
+            stays(Bounds::listless, "behind(0, 1, 1, " + k + ", " + k + ")", y -> y.behind(0, 1, 1, k, k), -3);
         }
-        stays(BoundsOfMapsTest::listless, "behind(0, 1, 1, 5, 5)", y -> y.behind(0, 1, 1, 5, 5), 0);
+        stays(Bounds::listless, "behind(0, 1, 1, 5, 5)", y -> y.behind(0, 1, 1, 5, 5), 0);
         stays(Bounds::fullAndBare, "behind(0, 0, 0, 823543, 0)", y -> y.behind(0, 0, 0, 823543, 0), -3);
         stays(Bounds::fullAndBare, "behind(0, 0, 0, 0, 823543)", y -> y.behind(0, 0, 0, 0, 823543), -3);
         stays(Bounds::fullAndBare, "behind(0, 1, 1, 0, 0), no maps at first", y -> y.behind(0, 1, 1, 0, 0), -3);

@@ -7,7 +7,6 @@ public final class BoundsOfOperationsTest extends Bounds {
         promise32Last();
         promise32Refused();
         promise33();
-        promise33Refused();
         promise34();
         promise35();
         promise36();
@@ -21,12 +20,6 @@ public final class BoundsOfOperationsTest extends Bounds {
         end(31, 41);
     }
 
-    private static NetMaps listless() {
-        NetMaps x = rich();
-        x.list(0, 0);
-        return x;
-    }
-
     /** Networks of one to four nodes without lines in drawers 0 to 3, three nodes with all lines in 4. */
     private static NetMaps small() {
         NetMaps x = with("1:", "2:", "3:", "4:", "3:0-0 0-1 0-2 1-1 1-2 2-2");
@@ -35,7 +28,7 @@ public final class BoundsOfOperationsTest extends Bounds {
     }
 
     private static void promise31() {
-        test(31, "OPERATIONS of two of a DRAWER, what 0 all, 1 IDLE, 2 FAIR ones; OF THREE by the MAJORITY: 3: how many");
+        test(31, "what 0 all, 1 IDLE, 2 FAIR ones; OF THREE by the MAJORITY: 3: how many");
         int[][] want = {{1, 1, 1, 1}, {16, 4, 2, 1}, {19683, 729, 27, 729}};
         for (int n = 1; n <= 3; n++) {
             NetMaps x = new NetMaps();
@@ -60,7 +53,7 @@ public final class BoundsOfOperationsTest extends Bounds {
         for (int what = 0; what <= 3; what++) {
             int told = what;
             int[] k2 = others[0];
-            stays(BoundsOfOperationsTest::listless, "operations(0, " + what + ")", y -> y.operations(0, told), k2[what]);
+            stays(Bounds::listless, "operations(0, " + what + ")", y -> y.operations(0, told), k2[what]);
         }
     }
 
@@ -201,16 +194,34 @@ public final class BoundsOfOperationsTest extends Bounds {
         stays(Bounds::rich, "operation(3, 0, MAX, 0, 0, 0)", x -> x.operation(3, 0, GREATEST, 0, 0, 0), -3);
     }
 
-    /** How many, and the number of the first, of networks of one, two, three nodes. */
+    /** A call of two drawers that is tried on all networks of n nodes. */
     private interface Trial {
-        int of(NetMaps x, int n, boolean first);
+        int of(NetMaps x, int d, int e, int n, boolean first);
     }
 
-    private static void dueTried(String name, World world, Trial trial, int[] many, int[] first) {
+    /** How many, and the number of the first, of networks of one, two, three nodes. */
+    private static void dueTried(String name, World world, Trial trial, int d, int e, int[] many, int[] first) {
         for (int n = 1; n <= 3; n++) {
             int nodes = n;
-            stays(world, name + ", n " + n + ", how many", x -> trial.of(x, nodes, false), many[n - 1]);
-            stays(world, name + ", n " + n + ", the first", x -> trial.of(x, nodes, true), first[n - 1]);
+            stays(world, name + ", n " + n + ", how many", x -> trial.of(x, d, e, nodes, false), many[n - 1]);
+            stays(world, name + ", n " + n + ", the first", x -> trial.of(x, d, e, nodes, true), first[n - 1]);
+        }
+    }
+
+    private static void triedRefused(int promise, String empty, String none, String call, Trial trial) {
+        for (boolean first : new boolean[] {true, false}) {
+            test(promise, empty);
+            asksAtEnds(Bounds::rich, call + "(5, 0, #, ..)", 1, 3, (x, n) -> trial.of(x, 5, 0, n, first), EMPTY);
+            asksAtEnds(Bounds::rich, call + "(0, 5, #, ..)", 1, 3, (x, n) -> trial.of(x, 0, 5, n, first), EMPTY);
+            test(promise, none);
+            refusesOutside(Bounds::rich, call + "(#, 0, 1, ..)", 0, 5, (x, d) -> trial.of(x, d, 0, 1, first), NONE);
+            refusesOutside(Bounds::rich, call + "(0, #, 1, ..)", 0, 5, (x, e) -> trial.of(x, 0, e, 1, first), NONE);
+            refusesOutside(Bounds::rich, call + "(0, 1, #, ..)", 1, 3, (x, n) -> trial.of(x, 0, 1, n, first), NONE);
+            test(promise, "Of several reasons NONE comes first, then -2");
+            refusesOutside(Bounds::rich, call + "(5, 0, #, ..)", 1, 3, (x, n) -> trial.of(x, 5, 0, n, first), NONE);
+            refusesOutside(Bounds::rich, call + "(0, 5, #, ..)", 1, 3, (x, n) -> trial.of(x, 0, 5, n, first), NONE);
+            refusesOutside(Bounds::rich, call + "(5, #, 1, ..)", 0, 5, (x, e) -> trial.of(x, 5, e, 1, first), NONE);
+            refusesOutside(Bounds::rich, call + "(#, 5, 1, ..)", 0, 5, (x, d) -> trial.of(x, d, 5, 1, first), NONE);
         }
     }
 
@@ -221,38 +232,20 @@ public final class BoundsOfOperationsTest extends Bounds {
     }
 
     private static void promise33() {
+        World world = BoundsOfOperationsTest::tried;
+        Trial trial = NetMaps::duality;
+        int[] no = {0, 0, 0};
         int[] none = {-4, -4, -4};
         test(33, "At how many NETWORKS of n NODES the DUALITY of x and d FAILS (first false)");
-        dueTried("both hold of all", BoundsOfOperationsTest::tried, (x, n, first) -> x.duality(1, 0, n, first),
-                new int[] {2, 16, 512}, new int[] {0, 0, 0});
-        dueTried("a line, no line", BoundsOfOperationsTest::tried, (x, n, first) -> x.duality(3, 1, n, first),
-                new int[] {0, 0, 0}, none);
-        dueTried("a loop, three colours", BoundsOfOperationsTest::tried, (x, n, first) -> x.duality(0, 4, n, first),
-                new int[] {0, 0, 0}, none);
+        dueTried("both hold of all", world, trial, 1, 0, new int[] {2, 16, 512}, new int[] {0, 0, 0});
+        dueTried("a line, no line", world, trial, 3, 1, no, none);
+        dueTried("a loop, three colours", world, trial, 0, 4, no, none);
         test(33, "the number of the first of these (-4: none)");
-        dueTried("a loop twice: what has one", BoundsOfOperationsTest::tried, (x, n, first) -> x.duality(0, 0, n, first),
-                new int[] {1, 12, 448}, new int[] {1, 1, 1});
-        dueTried("a loop, no line", BoundsOfOperationsTest::tried, (x, n, first) -> x.duality(0, 1, n, first),
-                new int[] {0, 3, 63}, new int[] {-4, 2, 2});
+        dueTried("a loop twice: what has one", world, trial, 0, 0, new int[] {1, 12, 448}, new int[] {1, 1, 1});
+        dueTried("a loop, no line", world, trial, 0, 1, new int[] {0, 3, 63}, new int[] {-4, 2, 2});
         // Neither of what has no loop, but a line one way or both between each two; 0>1 0>2 1>2 is the number 38.
-        dueTried("a loop, two colours", BoundsOfOperationsTest::tried, (x, n, first) -> x.duality(0, 2, n, first),
-                new int[] {0, 0, 27}, new int[] {-4, -4, 38});
-    }
-
-    private static void promise33Refused() {
-        for (boolean first : new boolean[] {true, false}) {
-            test(33, "-2: one is empty");
-            asksAtEnds(Bounds::rich, "duality(5, 0, #, ..)", 1, 3, (x, n) -> x.duality(5, 0, n, first), EMPTY);
-            asksAtEnds(Bounds::rich, "duality(0, 5, #, ..)", 1, 3, (x, n) -> x.duality(0, 5, n, first), EMPTY);
-            test(33, "NONE: no such ones");
-            refusesOutside(Bounds::rich, "duality(#, 0, 1, ..)", 0, 5, (x, d) -> x.duality(d, 0, 1, first), NONE);
-            refusesOutside(Bounds::rich, "duality(0, #, 1, ..)", 0, 5, (x, d) -> x.duality(0, d, 1, first), NONE);
-            refusesOutside(Bounds::rich, "duality(0, 1, #, ..)", 1, 3, (x, n) -> x.duality(0, 1, n, first), NONE);
-            test(33, "Of several reasons NONE comes first, then -2");
-            refusesOutside(Bounds::rich, "duality(5, 0, #, ..)", 1, 3, (x, n) -> x.duality(5, 0, n, first), NONE);
-            refusesOutside(Bounds::rich, "duality(0, 5, #, ..)", 1, 3, (x, n) -> x.duality(0, 5, n, first), NONE);
-            refusesOutside(Bounds::rich, "duality(5, #, 1, ..)", 0, 5, (x, d) -> x.duality(5, d, 1, first), NONE);
-        }
+        dueTried("a loop, two colours", world, trial, 0, 2, new int[] {0, 0, 27}, new int[] {-4, -4, 38});
+        triedRefused(33, "-2: one is empty", "NONE: no such ones", "duality", trial);
     }
 
     private static void promise34() {
@@ -277,7 +270,7 @@ public final class BoundsOfOperationsTest extends Bounds {
             }
         }
         test(34, "MAPS (no LISTS) into q NODES (1 to 7) with all LINES but LOOPS");
-        stays(BoundsOfOperationsTest::listless, "colours(1, 3)", x -> x.colours(1, 3), 6);
+        stays(Bounds::listless, "colours(1, 3)", x -> x.colours(1, 3), 6);
         test(34, "-2: empty");
         asksAtEnds(Bounds::rich, "colours(5, #)", 1, 7, (x, q) -> x.colours(5, q), EMPTY);
         test(34, "NONE: no such ones");
@@ -369,7 +362,7 @@ public final class BoundsOfOperationsTest extends Bounds {
             due("a chain", x.orbit(1, a), 1 << a);
             due("a chain both ways", x.orbit(2, a), 1 << a | 1 << 6 - a);
         }
-        stays(BoundsOfOperationsTest::listless, "orbit(1, 2), no lists", y -> y.orbit(1, 2), 7);
+        stays(Bounds::listless, "orbit(1, 2), no lists", y -> y.orbit(1, 2), 7);
         test(37, "-2: empty");
         asksAtEnds(Bounds::rich, "orbit(5, #)", 0, 6, (y, a) -> y.orbit(5, a), EMPTY);
         test(37, "NONE: no such ones");
@@ -381,63 +374,39 @@ public final class BoundsOfOperationsTest extends Bounds {
     }
 
     private static void promise38() {
+        World world = BoundsOfOperationsTest::tried;
+        Trial trial = NetMaps::between;
         int[] no = {0, 0, 0};
         int[] none = {-4, -4, -4};
-        test(38, "NETWORKS of n NODES (1 to 3), numbered as of a DUALITY, into which d FITS, which FIT into e, but not back");
+        test(38, "into which d FITS, which FIT into e, but not back (either)");
         // Lines, no loop, none both ways, no ring of three: 3 * 3 * 3 - 1 - 8.
-        dueTried("one node and two ways", BoundsOfOperationsTest::tried, (x, n, first) -> x.between(1, 2, n, first),
-                new int[] {0, 2, 18}, new int[] {-4, 2, 2});
-        // Of one node and a loop: lines, but no loop.
-        dueTried("one node and a loop", BoundsOfOperationsTest::tried, (x, n, first) -> x.between(1, 0, n, first),
-                new int[] {0, 3, 63}, new int[] {-4, 2, 2});
+        dueTried("one node and two ways", world, trial, 1, 2, new int[] {0, 2, 18}, new int[] {-4, 2, 2});
+        dueTried("one node and a loop: lines, no loop", world, trial, 1, 0, new int[] {0, 3, 63}, new int[] {-4, 2, 2});
+        // Lines between each two of three, somewhere both ways: 27 less the 8 that are one way all through.
+        dueTried("two ways and a loop", world, trial, 2, 0, new int[] {0, 0, 19}, new int[] {-4, -4, 46});
         test(38, "how many (first false), the number of the first (-4: none)");
-        dueTried("nothing between", BoundsOfOperationsTest::tried, (x, n, first) -> x.between(1, 3, n, first), no, none);
-        dueTried("back from a loop", BoundsOfOperationsTest::tried, (x, n, first) -> x.between(0, 5, n, first), no, none);
-        dueTried("d does not fit", BoundsOfOperationsTest::tried, (x, n, first) -> x.between(0, 1, n, first), no, none);
-        dueTried("itself", BoundsOfOperationsTest::tried, (x, n, first) -> x.between(2, 2, n, first), no, none);
-        // Two ways, no loop, not all ways between three: 27 that have each of three twos joined, less what has no two ways.
-        dueTried("two ways and a loop", BoundsOfOperationsTest::tried, (x, n, first) -> x.between(2, 0, n, first),
-                new int[] {0, 0, 19}, new int[] {-4, -4, 46});
-        for (boolean first : new boolean[] {true, false}) {
-            test(38, "-2: one is empty");
-            asksAtEnds(Bounds::rich, "between(5, 0, #, ..)", 1, 3, (x, n) -> x.between(5, 0, n, first), EMPTY);
-            asksAtEnds(Bounds::rich, "between(0, 5, #, ..)", 1, 3, (x, n) -> x.between(0, 5, n, first), EMPTY);
-            test(38, "NONE: no such ones");
-            refusesOutside(Bounds::rich, "between(#, 0, 1, ..)", 0, 5, (x, d) -> x.between(d, 0, 1, first), NONE);
-            refusesOutside(Bounds::rich, "between(0, #, 1, ..)", 0, 5, (x, d) -> x.between(0, d, 1, first), NONE);
-            refusesOutside(Bounds::rich, "between(0, 1, #, ..)", 1, 3, (x, n) -> x.between(0, 1, n, first), NONE);
-            test(38, "Of several reasons NONE comes first, then -2");
-            refusesOutside(Bounds::rich, "between(5, 0, #, ..)", 1, 3, (x, n) -> x.between(5, 0, n, first), NONE);
-            refusesOutside(Bounds::rich, "between(#, 5, 1, ..)", 0, 5, (x, d) -> x.between(d, 5, 1, first), NONE);
-        }
+        dueTried("nothing between", world, trial, 1, 3, no, none);
+        dueTried("back from a loop", world, trial, 0, 5, no, none);
+        dueTried("d does not fit", world, trial, 0, 1, no, none);
+        dueTried("itself", world, trial, 2, 2, no, none);
+        triedRefused(38, "-2: one is empty", "NONE: no such ones", "between", trial);
     }
 
     private static void promise39() {
+        World world = BoundsOfOperationsTest::tried;
+        Trial trial = NetMaps::unlike;
         test(39, "NETWORKS of n NODES (1 to 3) with another number of MAPS (no LISTS) into d than into e, likewise");
-        dueTried("one and two nodes", BoundsOfOperationsTest::tried, (x, n, first) -> x.unlike(1, 5, n, first),
-                new int[] {2, 16, 512}, new int[] {0, 0, 0});
-        dueTried("the same twice", BoundsOfOperationsTest::tried, (x, n, first) -> x.unlike(5, 5, n, first),
-                new int[] {0, 0, 0}, new int[] {-4, -4, -4});
-        dueTried("one node and its loop", BoundsOfOperationsTest::tried, (x, n, first) -> x.unlike(1, 0, n, first),
-                new int[] {1, 15, 511}, new int[] {1, 1, 1});
+        dueTried("one and two nodes", world, trial, 1, 5, new int[] {2, 16, 512}, new int[] {0, 0, 0});
+        dueTried("the same twice", world, trial, 5, 5, new int[] {0, 0, 0}, new int[] {-4, -4, -4});
+        dueTried("one node and its loop", world, trial, 1, 0, new int[] {1, 15, 511}, new int[] {1, 1, 1});
         World turned = () -> {
             NetMaps x = with("3:0>1 0>2", "3:1>0 2>0");
             x.list(0, 0);
             return x;
         };
         // Both have two lines and no way of two lines; only what is 0>1 0>2 or 1>0 2>0 tells them apart.
-        dueTried("turned", turned, (x, n, first) -> x.unlike(0, 1, n, first), new int[] {0, 0, 6}, new int[] {-4, -4, 6});
-        for (boolean first : new boolean[] {true, false}) {
-            test(39, "likewise");
-            asksAtEnds(Bounds::rich, "unlike(5, 0, #, ..)", 1, 3, (x, n) -> x.unlike(5, 0, n, first), EMPTY);
-            asksAtEnds(Bounds::rich, "unlike(0, 5, #, ..)", 1, 3, (x, n) -> x.unlike(0, 5, n, first), EMPTY);
-            refusesOutside(Bounds::rich, "unlike(#, 0, 1, ..)", 0, 5, (x, d) -> x.unlike(d, 0, 1, first), NONE);
-            refusesOutside(Bounds::rich, "unlike(0, #, 1, ..)", 0, 5, (x, d) -> x.unlike(0, d, 1, first), NONE);
-            refusesOutside(Bounds::rich, "unlike(0, 1, #, ..)", 1, 3, (x, n) -> x.unlike(0, 1, n, first), NONE);
-            test(39, "Of several reasons NONE comes first, then -2");
-            refusesOutside(Bounds::rich, "unlike(5, 0, #, ..)", 1, 3, (x, n) -> x.unlike(5, 0, n, first), NONE);
-            refusesOutside(Bounds::rich, "unlike(#, 5, 1, ..)", 0, 5, (x, d) -> x.unlike(d, 5, 1, first), NONE);
-        }
+        dueTried("turned", turned, trial, 0, 1, new int[] {0, 0, 6}, new int[] {-4, -4, 6});
+        triedRefused(39, "likewise", "likewise", "unlike", trial);
     }
 
     private static void promise40() {

@@ -1,7 +1,8 @@
 /** Boundary cases of promises 1 to 9: a new object, texts and drawers. */
 public final class BoundsOfTextsTest extends Bounds {
     /** 80 bytes: seven nodes, all their lines but two loops. */
-    private static final String LONGEST = "7:0-10-20-30-40-50-61-21-31-41-51-62-32-42-52-63-43-53-64-54-65-60>01>12>23>34>4";
+    private static final String LONGEST =
+            "7:0-10-20-30-40-50-61-21-31-41-51-62-32-42-52-63-43-53-64-54-65-60>01>12>23>34>4";
 
     public static void main(String[] args) {
         promise1();
@@ -400,7 +401,7 @@ public final class BoundsOfTextsTest extends Bounds {
     }
 
     private static void promise7() {
-        test(7, "Of a DRAWER, what 0 NODES, 1 LINES, 2 LOOPS, 3 PIECES, 4 whether it is TWO-WAY (1, 0), 5 the SHORTEST");
+        test(7, "what 0 NODES, 1 LINES, 2 LOOPS, 3 PIECES, 4 whether it is TWO-WAY (1, 0), 5 the SHORTEST");
         NetMaps x = fullAndBare();
         told(x, 2, ONE);
         told(x, 3, LOOP);
