@@ -249,7 +249,7 @@ abstract class Bounds {
         return text.toString();
     }
 
-    /** What later calls show of an object: all that is counted, all drawers, the tape read, all states undone. */
+    /** What later calls show of an object: all counts, drawers and a few maps, the tape read, all states undone. */
     static List<Integer> shown(NetMaps x) {
         List<Integer> shown = new ArrayList<>();
         for (int what = 0; what <= 2; what++) {
@@ -259,6 +259,12 @@ abstract class Bounds {
         for (int d = 0; d < 6; d++) {
             showRows(x, d, shown);
         }
+        // What a call looked for leaves no trace in what the next one looks for.
+        shown.add(x.maps(0, 1, 0));
+        shown.add(x.search(1, 1));
+        shown.add(x.cheapest(0, 1, true, 2));
+        shown.add(x.operations(0, 1));
+        shown.add(x.steps(0, 1, 0, 2));
         int fed = x.count(1);
         if (fed > 0) {
             shown.add(x.net(5, Math.min(fed, 80)));

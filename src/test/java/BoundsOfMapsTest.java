@@ -302,6 +302,18 @@ public final class BoundsOfMapsTest extends Bounds {
         }
         x.free();
         due("lists are not changed", x.left(1, 1, 3), 127);
+        test(19, "again and again");
+        // One goes out by another, all but node 6 of each list, round after round, however the lists are gone through.
+        NetMaps again = with("7:0>11>11>22>22>33>44>55>66>06>6",
+                "7:0>00>10>51>12>22>33>03>34>24>44>55>15>56>06>16>26>46>6");
+        int[] lists = {126, 127, 119, 123, 111, 125, 95};
+        for (int a = 0; a < 7; a++) {
+            again.list(a, lists[a]);
+        }
+        for (int a = 0; a < 7; a++) {
+            due("left(0, 1, " + a + ")", again.left(0, 1, a), 64);
+        }
+        due("how many went out", again.tighten(0, 1), 36);
         test(19, "(of a LOOP: what has no LOOP, too)");
         NetMaps loop = with(LOOP, "3:0-1 2>2", ONE, "3:0>1 1>0");
         due("what has no loop", loop.left(0, 1, 0), 4);
