@@ -127,6 +127,22 @@ abstract class Bounds {
             wrong++;
             System.out.println(name + ": drawer " + d + " holds " + text + ", due is " + want);
         }
+        dueRowsBack(x, d);
+    }
+
+    /** The rows told backward are those told forward. */
+    private static void dueRowsBack(NetMaps x, int d) {
+        int nodes = x.told(d, 0);
+        int[] from = new int[7];
+        for (int a = 0; a < nodes; a++) {
+            int to = x.row(d, a, true);
+            for (int b = 0; b < nodes; b++) {
+                from[b] |= (to >> b & 1) << a;
+            }
+        }
+        for (int b = 0; b < nodes; b++) {
+            due("row(" + d + ", " + b + ", false)", x.row(d, b, false), from[b]);
+        }
     }
 
     /** A call that answers so, and changes nothing: all later calls answer as if it had not been. */
