@@ -8,8 +8,9 @@ import java.util.Map;
 import java.util.TreeMap;
 
 /**
- * What the tests of boundary cases share. Each test is named by the number of its promise and by the words of the
- * document that it looks at; the words are looked up there, so that no test outlives its sentence unseen.
+ * What the tests of boundary cases and of sentences share. Each test is named by the number of its promise and by
+ * the words of the document that it looks at; the words are looked up there, so that no test outlives its sentence
+ * unseen.
  */
 abstract class Bounds {
     static final int NONE = -1;
@@ -26,7 +27,6 @@ abstract class Bounds {
     static final String ONE = "1:";
 
     private static final Path DOCUMENT = Path.of("..", "shared", "DOC.md");
-
     private static final Map<String, String> sections = sections();
     private static final Map<Integer, Integer> tests = new TreeMap<>();
     private static int wrong;
@@ -63,7 +63,7 @@ abstract class Bounds {
     }
 
     /** The document's text by headings (of promises by number), its white space made single blanks. */
-    private static Map<String, String> sections() {
+    static Map<String, String> sections() {
         Map<String, StringBuilder> texts = new LinkedHashMap<>();
         StringBuilder text = new StringBuilder();
         try {
@@ -85,18 +85,23 @@ abstract class Bounds {
 
     /** Tells how it went; each promise from first to last has a test. */
     static void end(int first, int last) {
-        int all = 0;
         for (int promise = first; promise <= last; promise++) {
-            int many = tests.getOrDefault(promise, 0);
-            all += many;
-            if (many == 0) {
+            if (!tests.containsKey(promise)) {
                 wrong++;
                 System.out.println("promise " + promise + " has no test of its boundaries");
             }
         }
-        System.out.println(wrong == 0
-                ? "boundaries of promises " + first + " to " + last + ": " + all + " tests, " + asked + " answers"
-                : wrong + " answers at boundaries are not as due");
+        end("boundaries of promises " + first + " to " + last);
+    }
+
+    /** Tells how it went with the tests of something. */
+    static void end(String what) {
+        int all = 0;
+        for (int many : tests.values()) {
+            all += many;
+        }
+        System.out.println(what + ": "
+                + (wrong == 0 ? all + " tests, " + asked + " answers" : wrong + " answers are not as due"));
         if (wrong != 0) {
             System.exit(1);
         }
